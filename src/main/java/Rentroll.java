@@ -94,7 +94,7 @@ public final class Rentroll {
         needState(!roll.flats.isFull());
         int flat = roll.flats.append(house, NONE, NONE, NONE);
         roll.areas.tell(flat, 0, area);
-        return kept(flat);
+        return renewed(journal.kept(flat));
     }
 
     public int shift(int from, int to, int area, int day)
@@ -111,7 +111,7 @@ public final class Rentroll {
         int more = roll.areas.on(to, day) + area;
         roll.areas.tell(from, day, less);
         roll.areas.tell(to, day, more);
-        return kept(less);
+        return renewed(journal.kept(less));
     }
 
     public int lease(int flat, int from, int to, int heads, int rent, int way)
@@ -128,7 +128,7 @@ public final class Rentroll {
         roll.leases.put(lease, BASE, monthOf(from));
         roll.headcounts.tell(lease, from, heads);
         roll.rents.tell(lease, from, rent);
-        return kept(lease);
+        return renewed(journal.kept(lease));
     }
 
     public int advance(int lease, int coins) throws IndexOutOfBoundsException, IllegalArgumentException {
@@ -136,7 +136,7 @@ public final class Rentroll {
         need(isBetween(coins, 0, MOST_COINS));
         int before = roll.leases.at(lease, ADVANCE);
         roll.leases.put(lease, ADVANCE, coins);
-        return kept(before);
+        return renewed(journal.kept(before));
     }
 
     public int heads(int lease, int day, int heads) throws IndexOutOfBoundsException, IllegalArgumentException {
@@ -144,7 +144,7 @@ public final class Rentroll {
         need(isBetween(day, roll.leases.at(lease, FROM), LAST_DAY) && isBetween(heads, 1, 6));
         int before = roll.headcounts.on(lease, day);
         roll.headcounts.tell(lease, day, heads);
-        return kept(before);
+        return renewed(journal.kept(before));
     }
 
     public int step(int lease, int day, int rent) throws IndexOutOfBoundsException, IllegalArgumentException {
@@ -152,7 +152,7 @@ public final class Rentroll {
         need(isBetween(day, roll.leases.at(lease, FROM), LAST_DAY) && isBetween(rent, 1, MOST_COINS));
         int before = roll.rentOn(lease, day);
         roll.rents.tell(lease, day, rent);
-        return kept(before);
+        return renewed(journal.kept(before));
     }
 
     public int freeMonth(int lease, int month) throws IndexOutOfBoundsException, IllegalArgumentException {
@@ -160,7 +160,7 @@ public final class Rentroll {
         need(isMonth(month));
         int then = roll.isFreeMonth(lease, month) ? 0 : 1;
         roll.freeMonths.tell(lease, month, then);
-        return kept(then);
+        return renewed(journal.kept(then));
     }
 
     public int option(int lease, int days) throws IndexOutOfBoundsException, IllegalArgumentException {
@@ -175,7 +175,7 @@ public final class Rentroll {
             return CANNOT;
         }
         roll.leases.put(lease, TO, later);
-        return kept(later);
+        return renewed(journal.kept(later));
     }
 
     public int notice(int lease, int day) throws IndexOutOfBoundsException, IllegalArgumentException {
@@ -190,14 +190,14 @@ public final class Rentroll {
             return CANNOT;
         }
         roll.leases.put(lease, NOTICE, end);
-        return kept(end);
+        return renewed(journal.kept(end));
     }
 
     public int index(int month, int value) throws IllegalArgumentException {
         need(isMonth(month) && isBetween(value, 1, 10000));
         int before = roll.indexOf(month);
         roll.indexes.tell(0, month, value);
-        return kept(before);
+        return renewed(journal.kept(before));
     }
 
     public int clause(int lease, int bar, int top) throws IndexOutOfBoundsException, IllegalArgumentException {
@@ -205,7 +205,7 @@ public final class Rentroll {
         need(isBetween(bar, 0, 50) && isBetween(top, 0, 50));
         roll.leases.put(lease, BAR, bar);
         roll.leases.put(lease, TOP, top);
-        return kept(roll.rents.howMany(LEASE, lease));
+        return renewed(journal.kept(roll.rents.howMany(LEASE, lease)));
     }
 
     public int adjust(int lease, int month)
@@ -220,14 +220,14 @@ public final class Rentroll {
         }
         roll.rents.tell(lease, first, rent);
         roll.leases.put(lease, BASE, month);
-        return kept(rent);
+        return renewed(journal.kept(rent));
     }
 
     public int compare(int house, int coins) throws IllegalArgumentException, IllegalStateException {
         need(isBetween(house, 0, HOUSES - 1) && isBetween(coins, 1, 1000));
         needState(roll.rows.howMany(HOUSE, house) < MOST_EACH);
         roll.rows.append(house, coins, NONE, NONE);
-        return kept(roll.rows.howMany(HOUSE, house));
+        return renewed(journal.kept(roll.rows.howMany(HOUSE, house)));
     }
 
     public int raise(int lease, int month) throws IndexOutOfBoundsException, IllegalArgumentException {
@@ -239,7 +239,7 @@ public final class Rentroll {
             return CANNOT;
         }
         roll.rents.tell(lease, first, rent);
-        return kept(rent);
+        return renewed(journal.kept(rent));
     }
 
     // ---- what is done: dues and payments
@@ -250,7 +250,7 @@ public final class Rentroll {
         need(isSpan(from, to) && isBetween(percent, 1, 100));
         needState(roll.defects.howMany(LEASE, lease) < MOST_EACH);
         roll.defects.append(lease, from, to, percent);
-        return kept(roll.defects.howMany(LEASE, lease));
+        return renewed(journal.kept(roll.defects.howMany(LEASE, lease)));
     }
 
     public int pay(int lease, int day, int coins, int word)
@@ -259,7 +259,7 @@ public final class Rentroll {
         need(isBetween(day, roll.leases.at(lease, FROM), LAST_DAY));
         need(isBetween(coins, 1, MOST_COINS) && isBetween(word, NONE, MONTHS - 1));
         books.payments.append(lease, day, coins, word);
-        return kept(books.payments.howMany(LEASE, lease));
+        return renewed(journal.kept(books.payments.howMany(LEASE, lease)));
     }
 
     public int refund(int lease, int day, int coins) throws IndexOutOfBoundsException, IllegalArgumentException {
@@ -270,14 +270,15 @@ public final class Rentroll {
         }
         books.charges.append(lease, day, coins, REFUND_KIND);
         // only when the call is kept, LAST is right again, on which the credit depends
-        return kept(0) == CANNOT ? CANNOT : owedOn(lease, day, 1);
+        int kept = renewed(journal.kept(0));
+        return kept == CANNOT ? CANNOT : owedOn(lease, day, 1);
     }
 
     public int rate(int day, int rate) throws IllegalArgumentException {
         need(isDay(day) && isBetween(rate, 0, 5000));
         int before = Math.max(books.rates.on(0, day), 0);
         books.rates.tell(0, day, rate);
-        return kept(before);
+        return renewed(journal.kept(before));
     }
 
     public int remind(int lease, int day) throws IndexOutOfBoundsException, IllegalArgumentException {
@@ -288,7 +289,7 @@ public final class Rentroll {
             return CANNOT;
         }
         books.charges.append(lease, day, REMINDER_FEE, FEE_KIND);
-        return kept(books.remindersOf(lease));
+        return renewed(journal.kept(books.remindersOf(lease)));
     }
 
     public int terminate(int lease, int day) throws IndexOutOfBoundsException, IllegalArgumentException {
@@ -299,7 +300,7 @@ public final class Rentroll {
             return CANNOT;
         }
         roll.leases.put(lease, TERMINATED, day);
-        return kept(day + GRACE);
+        return renewed(journal.kept(day + GRACE));
     }
 
     public int out(int lease) throws IndexOutOfBoundsException {
@@ -310,7 +311,7 @@ public final class Rentroll {
             return CANNOT;
         }
         roll.leases.put(lease, TO, last);
-        return kept(last);
+        return renewed(journal.kept(last));
     }
 
     // ---- what is done: costs, deposits, works
@@ -324,7 +325,7 @@ public final class Rentroll {
             return CANNOT;
         }
         roll.readings.tell(flat, day, value);
-        return kept(roll.readings.howMany(FLAT, flat));
+        return renewed(journal.kept(roll.readings.howMany(FLAT, flat)));
     }
 
     public int bill(int house, int key, int from, int to, int coins, int laid)
@@ -335,7 +336,7 @@ public final class Rentroll {
         int bill = costs.bills.append(house, from, to, key);
         costs.bills.put(bill, BILL_COINS, coins);
         costs.bills.put(bill, LAID, laid);
-        return kept(bill);
+        return renewed(journal.kept(bill));
     }
 
     public int settle(int house, int year, int day) throws IllegalArgumentException {
@@ -348,7 +349,7 @@ public final class Rentroll {
                 made++;
             }
         }
-        return kept(made);
+        return renewed(journal.kept(made));
     }
 
     public int deposit(int lease, int day, int coins) throws IndexOutOfBoundsException, IllegalArgumentException {
@@ -359,7 +360,7 @@ public final class Rentroll {
         }
         int then = books.heldOn(lease, day) + coins;
         books.held.tell(lease, day, then);
-        return kept(then);
+        return renewed(journal.kept(then));
     }
 
     public int use(int lease, int day, int coins) throws IndexOutOfBoundsException, IllegalArgumentException {
@@ -371,7 +372,7 @@ public final class Rentroll {
         }
         books.held.tell(lease, day, then);
         books.used.append(lease, day, coins, NONE);
-        return kept(then);
+        return renewed(journal.kept(then));
     }
 
     public int giveBack(int lease, int day) throws IndexOutOfBoundsException, IllegalArgumentException {
@@ -383,7 +384,7 @@ public final class Rentroll {
         int given = books.heldOn(lease, day) + books.fruits(lease, roll.leases.at(lease, GIVEN_BACK), day);
         books.held.tell(lease, day, 0);
         roll.leases.put(lease, GIVEN_BACK, day);
-        return kept(given);
+        return renewed(journal.kept(given));
     }
 
     public int work(int flat, int from, int to, int worth)
@@ -391,13 +392,12 @@ public final class Rentroll {
         needFlat(flat);
         need(isSpan(from, to) && isBetween(worth, 1, 1000));
         needState(!planner.works.isFull());
-        return kept(planner.works.append(flat, from, to, worth));
+        return renewed(journal.kept(planner.works.append(flat, from, to, worth)));
     }
 
     public int undo() throws IllegalStateException {
         needState(journal.dropCall());
-        refreshLasts();
-        return journal.calls;
+        return renewed(journal.calls);
     }
 
     public int knock() {
@@ -572,7 +572,13 @@ public final class Rentroll {
         for (int what = 0; what <= 11; what++) {
             sum = sum * 31 + aboutLease(lease, what);
         }
-        sum = withOwed(withOwed(sum, lease, 700), lease, LAST_DAY);
+        for (int turn = 0; turn < 2; turn++) {
+            int day = turn == 0 ? 700 : LAST_DAY;
+            sum = sum * 31 + roll.rentOn(lease, day);
+            for (int what = 0; what <= 3; what++) {
+                sum = sum * 31 + owedOn(lease, day, what);
+            }
+        }
         sum = sum * 31 + script.digitsOf(ledger.unitsOver(0, LAST_DAY)).length();
         for (int year = 0; year < YEARS; year++) {
             sum = sum * 31 + books.settledFor(lease, year);
@@ -580,14 +586,6 @@ public final class Rentroll {
         sum = sum * 31 + ofDeposit(lease, LAST_DAY, 0);
         sum = sum * 31 + ofDeposit(lease, LAST_DAY, 1);
         return sum * 31 + script.textOf(lease).length();
-    }
-
-    private long withOwed(long before, int lease, int day) {
-        long sum = before * 31 + roll.rentOn(lease, day);
-        for (int what = 0; what <= 3; what++) {
-            sum = sum * 31 + owedOn(lease, day, what);
-        }
-        return sum;
     }
 
     private long withBill(long before, int bill) {
@@ -648,35 +646,29 @@ public final class Rentroll {
     }
 
     private static int firstOf(int month) {
-        int part = Math.floorMod(month, YEAR_MONTHS);
+        int part = month % YEAR_MONTHS;
         int start = part >= 0 && part < STARTS.length ? STARTS[part] : 0;
-        return Math.floorDiv(month, YEAR_MONTHS) * YEAR_DAYS + start;
+        return month / YEAR_MONTHS * YEAR_DAYS + start;
     }
 
     private static int lengthOf(int month) {
-        return firstOf(month + 1) - firstOf(month);
+        int part = month % YEAR_MONTHS;
+        return part >= 0 && part + 1 < STARTS.length ? STARTS[part + 1] - STARTS[part] : 1;
     }
 
     private static int monthOf(int day) {
-        int within = Math.floorMod(day, YEAR_DAYS);
+        int within = day % YEAR_DAYS;
         int part = 0;
         for (int next = 1; next < YEAR_MONTHS && next < STARTS.length; next++) {
             if (STARTS[next] <= within) {
                 part = next;
             }
         }
-        return Math.floorDiv(day, YEAR_DAYS) * YEAR_MONTHS + part;
-    }
-
-    /** Files the call that has just changed something; calls beyond the limit are taken back and told -9. */
-    private int kept(int answer) {
-        boolean isKept = journal.keepCall();
-        refreshLasts();
-        return isKept ? answer : CANNOT;
+        return day / YEAR_DAYS * YEAR_MONTHS + part;
     }
 
     /** LAST depends on whether a termination is cured, and so on all that was told: it is found once a call. */
-    private void refreshLasts() {
+    private int renewed(int answer) {
         for (int lease = 0; lease < roll.leases.size(); lease++) {
             int agreed = roll.agreedLast(lease);
             int told = roll.leases.at(lease, TERMINATED);
@@ -684,6 +676,7 @@ public final class Rentroll {
             boolean isEnding = told != NONE && !isCured;
             roll.setLast(lease, isEnding ? Math.min(agreed, told + GRACE) : agreed, isCured);
         }
+        return answer;
     }
 
     private int owedOn(int lease, int day, int what) {
@@ -813,7 +806,8 @@ public final class Rentroll {
     private boolean isAllSound() {
         boolean isSound = true;
         for (int bill = 0; bill < costs.bills.size(); bill++) {
-            isSound = isSound && costs.isBillSound(bill);
+            costs.look(bill);
+            isSound = isSound && costs.isSoundBill();
         }
         for (int lease = 0; lease < roll.leases.size(); lease++) {
             isSound = isSound && !roll.isSharingDays(lease) && script.isTextRight(lease);
@@ -852,14 +846,15 @@ public final class Rentroll {
             }
         }
 
-        boolean keepCall() {
+        /** Files the call that has just changed something; beyond the limit it is taken back and told -9. */
+        int kept(int answer) {
             if (calls < 0 || calls >= MOST_CALLS) {
                 takeBack();
-                return false;
+                return CANNOT;
             }
             calls++;
             behindCall[calls] = changes;
-            return true;
+            return answer;
         }
 
         boolean dropCall() {
@@ -976,7 +971,8 @@ public final class Rentroll {
             }
         }
 
-        int rowOf(int owner, int day) {
+        /** The row of a change on that very day; NONE without one. */
+        private int rowOf(int owner, int day) {
             int rows = size();
             for (int row = 0; row < rows; row++) {
                 if (at(row, DAY) == day && at(row, LEASE) == owner) {
@@ -986,7 +982,19 @@ public final class Rentroll {
             return NONE;
         }
 
-        private int latestRow(int owner, int day) {
+        /** What was told for that very day; NONE without it. */
+        int toldFor(int owner, int day) {
+            int rows = size();
+            for (int row = 0; row < rows; row++) {
+                if (at(row, DAY) == day && at(row, LEASE) == owner) {
+                    return at(row, VALUE);
+                }
+            }
+            return NONE;
+        }
+
+        /** The row of the latest change that is not later; NONE without one. */
+        int latestRow(int owner, int day) {
             int latest = NONE;
             int latestDay = NONE;
             int rows = size();
@@ -1004,12 +1012,6 @@ public final class Rentroll {
         int on(int owner, int day) {
             int row = latestRow(owner, day);
             return row == NONE ? NONE : at(row, VALUE);
-        }
-
-        /** The day of the latest change that is not later; NONE without one. */
-        int lastChange(int owner, int day) {
-            int row = latestRow(owner, day);
-            return row == NONE ? NONE : at(row, DAY);
         }
 
         /** The day of the first change behind a day; DAYS without one. */
@@ -1170,13 +1172,11 @@ public final class Rentroll {
         }
 
         boolean isFreeMonth(int lease, int month) {
-            int row = freeMonths.rowOf(lease, month);
-            return row != NONE && freeMonths.at(row, VALUE) == 1;
+            return freeMonths.toldFor(lease, month) == 1;
         }
 
         int indexOf(int month) {
-            int row = indexes.rowOf(0, month);
-            return row == NONE ? NONE : indexes.at(row, VALUE);
+            return indexes.toldFor(0, month);
         }
 
         /** The rent from the month on by the index; NONE if it cannot be adjusted. */
@@ -1229,17 +1229,18 @@ public final class Rentroll {
         }
 
         int readOn(int flat, int day) {
-            int earlier = readings.lastChange(flat, day);
+            int row = readings.latestRow(flat, day);
+            int value = row == NONE ? 0 : readings.at(row, VALUE);
             int later = readings.nextChange(flat, day);
             if (later >= DAYS) {
-                return Math.max(readings.on(flat, day), 0);
+                return value;
             }
-            int more = readings.on(flat, later);
-            if (earlier == NONE || earlier >= later) {
-                return more;
+            int then = readings.toldFor(flat, later);
+            int earlier = row == NONE ? later : readings.at(row, DAY);
+            if (earlier >= later) {
+                return then;
             }
-            int value = readings.on(flat, day);
-            return value + (more - value) * (day - earlier) / (later - earlier);
+            return value + (then - value) * (day - earlier) / (later - earlier);
         }
     }
 
@@ -1307,7 +1308,8 @@ public final class Rentroll {
         }
 
         int lastMove(int lease) {
-            return held.lastChange(lease, LAST_DAY);
+            int row = held.latestRow(lease, LAST_DAY);
+            return row == NONE ? NONE : held.at(row, DAY);
         }
 
         /** Coins of fruits by a day, over the days behind that on which the deposit was given back last. */
@@ -1358,7 +1360,7 @@ public final class Rentroll {
                 int length = lengthOf(month);
                 int start = Math.max(firstOf(month), from);
                 int end = Math.min(firstOf(month) + length - 1, last);
-                boolean isFree = start > end || roll.isFreeMonth(lease, month);
+                boolean isFree = start > end || roll.freeMonths.toldFor(lease, month) == 1;
                 rentDue[month] = isFree ? 0 : rentFor(start, end, length, roll.leases.at(lease, WAY));
                 advanceDue[month] = advanceFor(Math.max(end - start + 1, 0), length, roll.leases.at(lease, ADVANCE));
             }
@@ -1479,13 +1481,11 @@ public final class Rentroll {
             return has(place) ? open[place] : 0;
         }
 
-        /** Reaches all of days not behind this one; tells whether there are new ones. */
-        boolean reach(int day) {
-            int before = reached;
+        /** Reaches all of days not behind this one. */
+        void reach(int day) {
             while (reached < size && dayAt(reached) <= day) {
                 reached++;
             }
-            return reached > before;
         }
 
         /** Covers what is reached and open, in order; returns what is left of the amount. */
@@ -1518,7 +1518,7 @@ public final class Rentroll {
         /** The place of the rent of that month; size without one. */
         int placeOfRent(int month) {
             for (int place = 0; place < size && place < keys.length; place++) {
-                if (secondAt(place) == RENT_KIND && (int) keys[place] == month) {
+                if (((int) (keys[place] >> 32) & 255) == RENT_KIND && (int) keys[place] == month) {
                     return place;
                 }
             }
@@ -1576,7 +1576,23 @@ public final class Rentroll {
             seenUntil = until;
             seenVersion = journal.version;
             load(lease, last);
-            run(until);
+            int day = 0;
+            while (day <= until) {
+                book(day);
+                tally(day);
+                int next = Math.min(Math.max(nextEvent(), day + 1), until + 1);
+                if (day + 1 < next) {
+                    // what is due today is overdue only from tomorrow on
+                    tally(day + 1);
+                    repeat(day + 1, next);
+                }
+                day = next;
+            }
+        }
+
+        private int nextEvent() {
+            int nextDue = Math.min(fees.dayAt(fees.reached), others.dayAt(others.reached));
+            return Math.min(nextDue, payments.dayAt(payments.reached));
         }
 
         private void load(int lease, int last) {
@@ -1642,28 +1658,13 @@ public final class Rentroll {
             }
         }
 
-        private void run(int until) {
-            boolean wasMoved = true;
-            for (int day = 0; day <= until && day < DAYS; day++) {
-                boolean isMoved = book(day);
-                if (isMoved || wasMoved) {
-                    tally(day);
-                } else {
-                    repeat(day);
-                }
-                wasMoved = isMoved;
-            }
-        }
-
-        private boolean book(int day) {
-            boolean isDue = fees.reach(day);
-            isDue = others.reach(day) || isDue;
-            if (isDue && credit > 0) {
-                credit = others.cover(fees.cover(credit));
-            }
-            int place = payments.reached;
-            boolean isPaid = payments.reach(day);
-            for (; place < payments.reached; place++) {
+        private void book(int day) {
+            fees.reach(day);
+            others.reach(day);
+            credit = others.cover(fees.cover(credit));
+            int unbooked = payments.reached;
+            payments.reach(day);
+            for (int place = unbooked; place < payments.reached; place++) {
                 int left = payments.coinsAt(place);
                 int word = payments.secondAt(place);
                 if (word < NO_WORD) {
@@ -1671,7 +1672,6 @@ public final class Rentroll {
                 }
                 credit += others.cover(fees.cover(left));
             }
-            return isDue || isPaid;
         }
 
         private void tally(int day) {
@@ -1700,8 +1700,9 @@ public final class Rentroll {
             }
         }
 
-        private void repeat(int day) {
-            if (day > 0 && day < DAYS) {
+        /** The days behind this one, till ahead of the next one, are as it is. */
+        private void repeat(int from, int next) {
+            for (int day = Math.max(from + 1, 1); day < next && day < DAYS; day++) {
                 owed[day] = owed[day - 1];
                 credits[day] = credits[day - 1];
                 rentOpen[day] = rentOpen[day - 1];
@@ -2023,12 +2024,12 @@ public final class Rentroll {
             return sum;
         }
 
-        boolean isBillSound(int bill) {
-            look(bill);
-            int coins = bills.at(bill, BILL_COINS);
+        boolean isSoundBill() {
+            int coins = bills.at(seenBill, BILL_COINS);
+            int laid = laidCoins(seenBill);
             boolean isSound = sharesOfLeases() + shares[OWNER] == coins;
             for (int bearer = 0; bearer < BEARERS; bearer++) {
-                long notLaid = bearer == OWNER ? coins - laidCoins(bill) : 0;
+                long notLaid = bearer == OWNER ? coins - laid : 0;
                 long apart = (shares[bearer] - notLaid) * MILLION - exact[bearer];
                 isSound = isSound && Math.abs(apart) <= MILLION;
             }
@@ -2128,6 +2129,9 @@ public final class Rentroll {
         }
 
         private boolean isBetter(int set, int than) {
+            if (!isBetween(set, 0, worths.length - 1) || !isBetween(than, 0, worths.length - 1)) {
+                return false;
+            }
             if (worths[set] != worths[than]) {
                 return worths[set] > worths[than];
             }
@@ -2198,7 +2202,7 @@ public final class Rentroll {
                 case 6:
                     return roll.headcounts.on(lease, first);
                 case 8:
-                    return roll.rentOn(lease, first);
+                    return roll.rents.on(lease, first);
                 default:
                     return roll.leases.at(lease, WAY);
             }
