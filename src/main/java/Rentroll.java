@@ -39,6 +39,7 @@ public final class Rentroll {
     private static final int HOUSE = 0;
     private static final int FLAT = 0;
     private static final int LEASE = 0;
+    private static final int WHOSE = 0;
     private static final int FROM = 1;
     private static final int TO = 2;
     private static final int WAY = 3;
@@ -205,7 +206,7 @@ public final class Rentroll {
         need(isBetween(bar, 0, 50) && isBetween(top, 0, 50));
         roll.leases.put(lease, BAR, bar);
         roll.leases.put(lease, TOP, top);
-        return renewed(journal.kept(roll.rents.howMany(LEASE, lease)));
+        return renewed(journal.kept(roll.rents.changesOf(lease)));
     }
 
     public int adjust(int lease, int month)
@@ -325,7 +326,7 @@ public final class Rentroll {
             return CANNOT;
         }
         roll.readings.tell(flat, day, value);
-        return renewed(journal.kept(roll.readings.howMany(FLAT, flat)));
+        return renewed(journal.kept(roll.readings.changesOf(flat)));
     }
 
     public int bill(int house, int key, int from, int to, int coins, int laid)
@@ -710,7 +711,7 @@ public final class Rentroll {
             case 5:
                 return roll.isCured(lease) ? 1 : 0;
             case 6:
-                return roll.rents.howMany(LEASE, lease);
+                return roll.rents.changesOf(lease);
             case 7:
                 return roll.defects.howMany(LEASE, lease);
             case 8:
@@ -718,7 +719,7 @@ public final class Rentroll {
             case 9:
                 return roll.leases.at(lease, BASE);
             case 10:
-                return roll.freeMonths.howManyBoth(LEASE, lease, VALUE, 1);
+                return roll.freeMonths.changesTo(lease, 1);
             default:
                 return books.settlements.howMany(LEASE, lease);
         }
@@ -880,7 +881,7 @@ public final class Rentroll {
     }
 
     /** Rows of whole numbers; the first cell tells how many rows there are, so that undoing finds it too. */
-    private static class Table {
+    private static final class Table {
         private final Journal journal;
         private final int width;
         private final int[] cells;
@@ -891,16 +892,16 @@ public final class Rentroll {
             this.cells = new int[Math.max(1 + rows * width, 1)];
         }
 
-        final int size() {
+        int size() {
             return cells.length > 0 ? cells[0] : 0;
         }
 
-        final boolean isFull() {
+        boolean isFull() {
             return (size() + 1) * width >= cells.length;
         }
 
         /** A new row; columns behind the fourth one are NONE. Only the size is noted: undone, the row is gone. */
-        final int append(int first, int second, int third, int fourth) {
+        int append(int first, int second, int third, int fourth) {
             if (isFull()) {
                 return NONE;
             }
@@ -916,12 +917,12 @@ public final class Rentroll {
             return row;
         }
 
-        final int at(int row, int column) {
+        int at(int row, int column) {
             int cell = 1 + row * width + column;
             return row >= 0 && column >= 0 && cell > 0 && cell < cells.length ? cells[cell] : NONE;
         }
 
-        final void put(int row, int column, int value) {
+        void put(int row, int column, int value) {
             if (row >= 0 && column >= 0 && column < width) {
                 change(1 + row * width + column, value);
             }
@@ -934,17 +935,17 @@ public final class Rentroll {
             }
         }
 
-        final void restore(int cell, int value) {
+        void restore(int cell, int value) {
             if (cell >= 0 && cell < cells.length) {
                 cells[cell] = value;
             }
         }
 
-        final int howMany(int column, int value) {
+        int howMany(int column, int value) {
             return howManyBoth(column, value, column, value);
         }
 
-        final int howManyBoth(int column, int value, int other, int otherValue) {
+        int howManyBoth(int column, int value, int other, int otherValue) {
             int count = 0;
             int rows = size();
             for (int row = 0; row < rows; row++) {
@@ -956,51 +957,63 @@ public final class Rentroll {
         }
     }
 
-    /** Values that change on days, owner by owner; a day's value is that of the latest change not later. */
-    private static final class Timeline extends Table {
+    /** Values that change on days, each of a lease or flat; a day's value is that of the latest change not later. */
+    private static final class Timeline {
+        private final Table changes;
+
         Timeline(Journal journal, int rows) {
-            super(journal, rows, 3);
+            changes = new Table(journal, rows, 3);
         }
 
-        void tell(int owner, int day, int value) {
-            int row = rowOf(owner, day);
-            if (row == NONE) {
-                append(owner, day, value, NONE);
+        int size() {
+            return changes.size();
+        }
+
+        int changesOf(int whose) {
+            return changes.howMany(WHOSE, whose);
+        }
+
+        /** How many changes of it there are to that value. */
+        int changesTo(int whose, int value) {
+            return changes.howManyBoth(WHOSE, whose, VALUE, value);
+        }
+
+        int dayAt(int row) {
+            return changes.at(row, DAY);
+        }
+
+        int valueAt(int row) {
+            return changes.at(row, VALUE);
+        }
+
+        void tell(int whose, int day, int value) {
+            int row = latestRow(whose, day);
+            if (row != NONE && changes.at(row, DAY) == day) {
+                changes.put(row, VALUE, value);
             } else {
-                put(row, VALUE, value);
+                changes.append(whose, day, value, NONE);
             }
-        }
-
-        /** The row of a change on that very day; NONE without one. */
-        private int rowOf(int owner, int day) {
-            int rows = size();
-            for (int row = 0; row < rows; row++) {
-                if (at(row, DAY) == day && at(row, LEASE) == owner) {
-                    return row;
-                }
-            }
-            return NONE;
         }
 
         /** What was told for that very day; NONE without it. */
-        int toldFor(int owner, int day) {
-            int rows = size();
+        int toldFor(int whose, int day) {
+            int rows = changes.size();
             for (int row = 0; row < rows; row++) {
-                if (at(row, DAY) == day && at(row, LEASE) == owner) {
-                    return at(row, VALUE);
+                if (changes.at(row, DAY) == day && changes.at(row, WHOSE) == whose) {
+                    return changes.at(row, VALUE);
                 }
             }
             return NONE;
         }
 
         /** The row of the latest change that is not later; NONE without one. */
-        int latestRow(int owner, int day) {
+        int latestRow(int whose, int day) {
             int latest = NONE;
             int latestDay = NONE;
-            int rows = size();
+            int rows = changes.size();
             for (int row = 0; row < rows; row++) {
-                int told = at(row, DAY);
-                if (told <= day && told > latestDay && at(row, LEASE) == owner) {
+                int told = changes.at(row, DAY);
+                if (told <= day && told > latestDay && changes.at(row, WHOSE) == whose) {
                     latest = row;
                     latestDay = told;
                 }
@@ -1009,18 +1022,18 @@ public final class Rentroll {
         }
 
         /** The value on a day; NONE ahead of the first one. */
-        int on(int owner, int day) {
-            int row = latestRow(owner, day);
-            return row == NONE ? NONE : at(row, VALUE);
+        int on(int whose, int day) {
+            int row = latestRow(whose, day);
+            return row == NONE ? NONE : changes.at(row, VALUE);
         }
 
         /** The day of the first change behind a day; DAYS without one. */
-        int nextChange(int owner, int day) {
+        int nextChange(int whose, int day) {
             int next = DAYS;
-            int rows = size();
+            int rows = changes.size();
             for (int row = 0; row < rows; row++) {
-                int told = at(row, DAY);
-                if (told > day && told < next && at(row, LEASE) == owner) {
+                int told = changes.at(row, DAY);
+                if (told > day && told < next && changes.at(row, WHOSE) == whose) {
                     next = told;
                 }
             }
@@ -1028,13 +1041,13 @@ public final class Rentroll {
         }
 
         /** Writes the value of each day; 0 ahead of the first one. */
-        void spread(int owner, int[] days) {
+        void spread(int whose, int[] days) {
             Arrays.fill(days, NONE);
-            int rows = size();
+            int rows = changes.size();
             for (int row = 0; row < rows; row++) {
-                int day = at(row, DAY);
-                if (at(row, LEASE) == owner && day >= 0 && day < days.length) {
-                    days[day] = at(row, VALUE);
+                int day = changes.at(row, DAY);
+                if (changes.at(row, WHOSE) == whose && day >= 0 && day < days.length) {
+                    days[day] = changes.at(row, VALUE);
                 }
             }
             int value = 0;
@@ -1230,13 +1243,13 @@ public final class Rentroll {
 
         int readOn(int flat, int day) {
             int row = readings.latestRow(flat, day);
-            int value = row == NONE ? 0 : readings.at(row, VALUE);
+            int value = row == NONE ? 0 : readings.valueAt(row);
             int later = readings.nextChange(flat, day);
             if (later >= DAYS) {
                 return value;
             }
             int then = readings.toldFor(flat, later);
-            int earlier = row == NONE ? later : readings.at(row, DAY);
+            int earlier = row == NONE ? later : readings.dayAt(row);
             if (earlier >= later) {
                 return then;
             }
@@ -1309,7 +1322,7 @@ public final class Rentroll {
 
         int lastMove(int lease) {
             int row = held.latestRow(lease, LAST_DAY);
-            return row == NONE ? NONE : held.at(row, DAY);
+            return row == NONE ? NONE : held.dayAt(row);
         }
 
         /** Coins of fruits by a day, over the days behind that on which the deposit was given back last. */

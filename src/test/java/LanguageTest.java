@@ -138,6 +138,7 @@ public final class LanguageTest {
             boolean isInside = classes > 1;
             rule(tree, "1, 2: classes inside are private and static",
                 !isInside || modifiers.contains(Modifier.PRIVATE) && modifiers.contains(Modifier.STATIC));
+            rule(tree, "2: no class but an abstract one is built upon", tree.getExtendsClause() == null);
             int fields = 0;
             for (Tree member : tree.getMembers()) {
                 if (member instanceof VariableTree) {
