@@ -35,6 +35,13 @@ public final class Rentroll {
     private static final int FEE_KIND = 3;
     private static final int REFUND_KIND = 4;
 
+    // KEYS of bills; the fourth one is mixed of meter and area
+    private static final int AREA_KEY = 0;
+    private static final int HEADS_KEY = 1;
+    private static final int FLATS_KEY = 2;
+    private static final int METER_KEY = 3;
+    private static final int MIXED_KEY = 4;
+
     // columns of the tables; FROM and TO stand at the same place in all that have a span
     private static final int HOUSE = 0;
     private static final int FLAT = 0;
@@ -331,7 +338,7 @@ public final class Rentroll {
 
     public int bill(int house, int key, int from, int to, int coins, int laid)
             throws IllegalArgumentException, IllegalStateException {
-        need(isBetween(house, 0, HOUSES - 1) && isBetween(key, 0, 4) && isSpan(from, to));
+        need(isBetween(house, 0, HOUSES - 1) && isBetween(key, AREA_KEY, MIXED_KEY) && isSpan(from, to));
         need(isBetween(coins, 1, MOST_COINS) && isBetween(laid, 0, 100));
         needState(!costs.bills.isFull());
         int bill = costs.bills.append(house, from, to, key);
@@ -1865,12 +1872,13 @@ public final class Rentroll {
             Arrays.fill(exact, 0);
             int laid = laidCoins(bill);
             int key = bills.at(bill, KEY);
-            if (key <= 2) {
-                addRuns(bill, key, laid);
+            if (key == METER_KEY) {
+                addMeter(bill, laid);
+            } else if (key == MIXED_KEY) {
+                addMeter(bill, laid / 2);
+                addRuns(bill, AREA_KEY, laid - laid / 2);
             } else {
-                int byMeter = key == 3 ? laid : laid / 2;
-                addMeter(bill, byMeter);
-                addRuns(bill, 0, laid - byMeter);
+                addRuns(bill, key, laid);
             }
             reckonShares(laid, bills.at(bill, BILL_COINS) - laid);
         }
@@ -1906,12 +1914,12 @@ public final class Rentroll {
                 int lease = roll.tenantOn(flat, day);
                 next = Math.min(next, roll.nextTurn(flat, day));
                 bearers[flat] = lease == NONE ? OWNER : lease;
-                if (key == 0) {
+                if (key == AREA_KEY) {
                     weights[flat] = roll.areas.on(flat, day);
                     next = Math.min(next, roll.areas.nextChange(flat, day));
-                } else if (key == 2) {
+                } else if (key == FLATS_KEY) {
                     weights[flat] = 1;
-                } else if (lease != NONE) {
+                } else if (key == HEADS_KEY && lease != NONE) {
                     weights[flat] = roll.headcounts.on(lease, day);
                     next = Math.min(next, roll.headcounts.nextChange(lease, day));
                 }

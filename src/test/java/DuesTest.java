@@ -233,8 +233,27 @@ public final class DuesTest {
         Check.eq(third.settle(0, 0, 100), 1);
         Check.eq(third.remind(0, 100), -9);
         Check.eq(third.remind(0, 101), 1);
-        // a lease of which days lie ahead of all debts has none to be reminded of
+        // ahead of all debts there is none to be reminded of
         Check.eq(third.remind(0, 0), -9);
+        remindersOfOthers();
+    }
+
+    private static void remindersOfOthers() {
+        Rentroll roll = withLease();
+        roll.flat(0, 50);
+        roll.lease(1, 0, -1, 1, 200, 0);
+        Check.eq(roll.remind(0, 10), 1);
+        Check.eq(roll.remind(1, 10), 1);
+        Check.eq(roll.owed(0, 10, 0), 305);
+        Check.eq(roll.owed(1, 10, 0), 205);
+        Check.eq(roll.owed(0, 10, 0), 305);
+        Check.eq(roll.ofLease(1, 8), 1);
+        // what is REFUNDED is no reminder
+        Rentroll other = withLease();
+        other.pay(0, 0, 100, -1);
+        Check.eq(other.refund(0, 1, 50), 50);
+        Check.eq(other.remind(0, 10), 1);
+        Check.eq(other.owed(0, 10, 0), 255);
     }
 
     private static void terminate() {

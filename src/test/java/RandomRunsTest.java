@@ -90,7 +90,8 @@ public final class RandomRunsTest {
         }
         int calls = flats + (isOfRents ? tellIndexesAndRows() : 0);
         for (int call = calls; call < CALLS && Check.isRight(); call++) {
-            String name = call < calls + 4 ? "lease" : names.get(random.nextInt(names.size()));
+            String name = call < calls + 4 ? "lease"
+                : call < calls + 10 && isOfRents ? "clause" : names.get(random.nextInt(names.size()));
             compare(name, arguments(name));
         }
         compare("digest");
@@ -200,7 +201,8 @@ public final class RandomRunsTest {
             case "advance": return new int[] {lease, random.nextInt(3) == 0 ? 0 : coins(80)};
             case "heads": return new int[] {lease, day, between(1, 6)};
             case "step": return new int[] {lease, day, coins(800)};
-            case "freeMonth": case "adjust": case "raise": return new int[] {lease, month()};
+            case "freeMonth": return new int[] {lease, month()};
+            case "adjust": case "raise": return new int[] {lease, random.nextInt(4) == 0 ? month() : day / 30};
             case "option": return new int[] {lease, random.nextBoolean() ? between(1, 60) : between(1, 1000)};
             case "notice": case "remind": case "terminate": return new int[] {lease, day};
             case "index": return new int[] {month(), between(90, random.nextInt(5) == 0 ? 10000 : 140)};
