@@ -61,6 +61,18 @@ final class Check {
         same("call", outcome(call), "IllegalStateException");
     }
 
+    /** The call must answer so, a refusal or an exception, and nothing may be changed then. */
+    static void stays(Rentroll roll, Call call, Object due) {
+        String before = Picture.of(roll);
+        same("call", outcome(call), due);
+        same("what is told behind it", Picture.of(roll), before);
+    }
+
+    /** The call must answer -9 and change nothing. */
+    static void refused(Rentroll roll, Call call) {
+        stays(roll, call, -9);
+    }
+
     static boolean isRight() {
         return wrong == 0;
     }

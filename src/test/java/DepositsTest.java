@@ -352,9 +352,13 @@ public final class DepositsTest {
         Check.eq(open.spoiled(0, at + 1, 10), 5);
         Check.eq(open.spoiled(0, at + 1, 11), 5);
         // a WORD more: no sign of a WAY can be parted, so that 12 is told of none
-        for (int place = 0; place < open.text(0).length(); place++) {
-            for (int sign = 0; sign <= 11; sign++) {
-                Check.yes(open.spoiled(0, place, sign) < 12);
+        int length = open.text(0).length();
+        for (int sign = 0; sign <= 11; sign++) {
+            Rentroll each = new Rentroll();
+            each.flat(0, 5);
+            each.lease(0, 10, -1, 1, 5, 0);
+            for (int place = 0; place < length; place++) {
+                Check.yes(each.spoiled(0, place, sign) < 12);
             }
         }
     }

@@ -589,10 +589,13 @@ public final class DuesTest {
         much.flat(0, 5);
         much.lease(0, 0, -1, 1, 100000, 0);
         much.rate(0, 5000);
+        // of each MONTH that was due ahead of it 100000
         long units = 0;
-        for (int day = 3, month = 1; day < 1825; day++) {
-            units += 100000L * 5000 * month;
-            month += much.open(0, Math.min(month, 59), day) > 0 && month < 60 ? 1 : 0;
+        int[] lengths = {31, 28, 31, 30, 31, 30, 31, 31, 30, 31, 30, 31};
+        int due = 2;
+        for (int month = 0; month < 60; month++) {
+            units += 100000L * 5000 * (1824 - due);
+            due += lengths[month % 12];
         }
         Check.eq(much.interest(0, 0, 1824, true), Long.toString(units));
         Check.eq(much.interest(0, 0, 1824, false), Long.toString(units / 3650000));
